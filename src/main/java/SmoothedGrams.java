@@ -206,7 +206,9 @@ public final class SmoothedGrams {
     /** Adds the events of the open sentence to the raw counts, or takes them away (by = -1). */
     private void countOpen(int by) {
         for (int i = 0; i <= sentences.openLength(); i++) {
-            counts.addEvent(sentences.symbolAt(i - 2), sentences.symbolAt(i - 1), sentences.symbolAt(i), by);
+            int a = sentences.symbolAt(i - 2);
+            int b = sentences.symbolAt(i - 1);
+            counts.addEvent(a, b, sentences.symbolAt(i), by);
         }
     }
 
@@ -214,7 +216,9 @@ public final class SmoothedGrams {
     private void scoreOpen() {
         current.setOne();
         for (int i = 0; i <= sentences.openLength(); i++) {
-            chance.find(counts, eighths, sentences.symbolAt(i - 2), sentences.symbolAt(i - 1), sentences.symbolAt(i));
+            int a = sentences.symbolAt(i - 2);
+            int b = sentences.symbolAt(i - 1);
+            chance.find(counts, eighths, a, b, sentences.symbolAt(i));
             current.multiply(chance);
         }
     }
