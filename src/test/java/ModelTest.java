@@ -6,6 +6,9 @@ public final class ModelTest {
     private static final int MOST_CALLS = 512;
     private static final int[] ODD = {-1, 7, 8, 9, -7, 49, Integer.MAX_VALUE, Integer.MIN_VALUE};
 
+    private static final String[] WIDE = {"21212442", "00103312", "22041232", "20222222", "12222113", "32222240",
+        "43234222", "22222222", "22222222"};
+
     private final Random random;
     private final int run;
     /** Some runs draw from few words, so that rows come again and counts grow. */
@@ -23,7 +26,38 @@ public final class ModelTest {
         for (int run = 0; run < RUNS && Checks.wrong() == 0; run++) {
             new ModelTest(run).callAll();
         }
+        new ModelTest(RUNS).callWide();
         Checks.end();
+    }
+
+    /** Sentences that were searched for, as the score of the last one is 162 over 169 bits long. */
+    private void callWide() {
+        int call = 0;
+        for (int level = 1; level <= 3; level++) {
+            int eighths = level == 3 ? 3 : 1;
+            due(call++, "discount", program.discount(level, eighths) ? 1 : 0, model.discount(level, eighths) ? 1 : 0);
+        }
+        for (String sentence : WIDE) {
+            for (char digit : sentence.toCharArray()) {
+                due(call++, "word", program.word(digit - '0') ? 1 : 0, model.word(digit - '0') ? 1 : 0, digit - '0');
+            }
+            // The last one stays open, as there are eight before it.
+            due(call++, "learn", program.learn(), model.learn());
+        }
+        boolean wide = false;
+        for (int eighths = 1; eighths <= 8; eighths++) {
+            program.keep();
+            model.keep();
+            due(call++, "against", program.against(), model.against());
+            due(call++, "discount", program.discount(3, eighths) ? 1 : 0, model.discount(3, eighths) ? 1 : 0);
+            due(call++, "against", program.against(), model.against());
+            wide |= program.score(1, 5) != 0;
+            for (int i = 0; i < 10; i++) {
+                due(call++, "score", program.score(0, i), model.score(0, i), 0, i);
+                due(call++, "score", program.score(1, i), model.score(1, i), 1, i);
+            }
+        }
+        Checks.due("the score was wide", wide, true);
     }
 
     private void callAll() {
