@@ -1,8 +1,8 @@
 /** For each promise: ordinary inputs, the edges that the document names, and wrong inputs. */
 public final class PromisesTest {
     private static final int NONE = SmoothedGrams.NONE;
-    private static final int LEAST = Integer.MIN_VALUE;
-    private static final int MOST = Integer.MAX_VALUE;
+    private static final int LEAST = Setup.LEAST;
+    private static final int MOST = Setup.MOST;
 
     private PromisesTest() {
     }
@@ -29,36 +29,6 @@ public final class PromisesTest {
         Checks.end();
     }
 
-    /** Learns sentences, each written as its digits. */
-    private static SmoothedGrams learned(String... sentences) {
-        SmoothedGrams x = new SmoothedGrams();
-        for (String sentence : sentences) {
-            say(x, sentence);
-            x.learn();
-        }
-        return x;
-    }
-
-    private static void say(SmoothedGrams x, String sentence) {
-        for (char digit : sentence.toCharArray()) {
-            x.word(digit - '0');
-        }
-    }
-
-    private static void dueChance(String what, SmoothedGrams x, int[] asked, long top, long bottom) {
-        Checks.due(what + ", top", x.top(asked[0], asked[1], asked[2]), top);
-        Checks.due(what + ", bottom", x.bottom(asked[0], asked[1], asked[2]), bottom);
-    }
-
-    private static void dueScore(String what, SmoothedGrams x, int top, int bottom) {
-        Checks.due(what + ", top", x.score(0, 0), top);
-        Checks.due(what + ", bottom", x.score(1, 0), bottom);
-    }
-
-    private static int[] behind(int a, int b, int w) {
-        return new int[] {a, b, w};
-    }
-
     /** Promise 1. */
     private static void newObject() {
         Checks.due("1: NONE", NONE, -1);
@@ -68,31 +38,31 @@ public final class PromisesTest {
         }
         Checks.due("1: no open words", x.erase(), 0);
         Checks.due("1: no sentences", x.forget(), NONE);
-        dueChance("1: the chance of any word", x, behind(6, 6, 3), 1, 6);
-        dueScore("1: the score of nothing", x, 1, 6);
+        Checks.dueChance("1: the chance of any word", x, Checks.behind(6, 6, 3), 1, 6);
+        Checks.dueScore("1: the score of nothing", x, 1, 6);
         Checks.due("1: against 1 over 1", x.against(), -1);
         // 37 / 64 needs the order 3 and 6 eighths at each level.
-        dueChance("1: order and discounts", learned("0"), behind(6, 6, 0), 37, 64);
+        Checks.dueChance("1: order and discounts", Setup.learned("0"), Checks.behind(6, 6, 0), 37, 64);
     }
 
     /** Promise 2. */
     private static void order() {
-        SmoothedGrams x = learned("0");
+        SmoothedGrams x = Setup.learned("0");
         for (int n : new int[] {0, 4, -1, LEAST, MOST}) {
             Checks.due("2: a wrong order", x.order(n), false);
         }
-        dueChance("2: still order 3", x, behind(6, 6, 0), 37, 64);
+        Checks.dueChance("2: still order 3", x, Checks.behind(6, 6, 0), 37, 64);
         Checks.due("2: order 2", x.order(2), true);
-        dueChance("2: by order 2", x, behind(6, 6, 0), 7, 16);
+        Checks.dueChance("2: by order 2", x, Checks.behind(6, 6, 0), 7, 16);
         Checks.due("2: order 1", x.order(1), true);
-        dueChance("2: by order 1", x, behind(6, 6, 0), 1, 4);
+        Checks.dueChance("2: by order 1", x, Checks.behind(6, 6, 0), 1, 4);
         Checks.due("2: order 3", x.order(3), true);
-        dueChance("2: by order 3 again", x, behind(6, 6, 0), 37, 64);
+        Checks.dueChance("2: by order 3 again", x, Checks.behind(6, 6, 0), 37, 64);
     }
 
     /** Promise 3. */
     private static void discount() {
-        SmoothedGrams x = learned("0");
+        SmoothedGrams x = Setup.learned("0");
         for (int level : new int[] {0, 4, -1, LEAST, MOST}) {
             Checks.due("3: a wrong level", x.discount(level, 3), false);
         }
@@ -101,21 +71,21 @@ public final class PromisesTest {
                 Checks.due("3: wrong eighths", x.discount(level, eighths), false);
             }
         }
-        dueChance("3: still 6 eighths", x, behind(6, 6, 0), 37, 64);
+        Checks.dueChance("3: still 6 eighths", x, Checks.behind(6, 6, 0), 37, 64);
         // With all of it taken off nothing of the own count is left, and each level passes on 1 / 6.
         for (int level = 1; level <= 3; level++) {
             Checks.due("3: 8 eighths", x.discount(level, 8), true);
         }
-        dueChance("3: 8 eighths everywhere", x, behind(6, 6, 0), 1, 6);
+        Checks.dueChance("3: 8 eighths everywhere", x, Checks.behind(6, 6, 0), 1, 6);
         // Level 3: (7 + 1 / 6) / 8.
         Checks.due("3: 1 eighth at level 3", x.discount(3, 1), true);
-        dueChance("3: 1 eighth at level 3", x, behind(6, 6, 0), 43, 48);
+        Checks.dueChance("3: 1 eighth at level 3", x, Checks.behind(6, 6, 0), 43, 48);
         // Level 2: (4 + 4 / 6) / 8 = 7 / 12; level 3: (7 + 7 / 12) / 8.
         Checks.due("3: 4 eighths at level 2", x.discount(2, 4), true);
-        dueChance("3: 4 eighths at level 2", x, behind(6, 6, 0), 91, 96);
+        Checks.dueChance("3: 4 eighths at level 2", x, Checks.behind(6, 6, 0), 91, 96);
         // Level 1: (6 + 4 / 6) / 16 = 5 / 12; level 2: (4 + 20 / 12) / 8 = 17 / 24; level 3: (7 + 17 / 24) / 8.
         Checks.due("3: 2 eighths at level 1", x.discount(1, 2), true);
-        dueChance("3: 2 eighths at level 1", x, behind(6, 6, 0), 185, 192);
+        Checks.dueChance("3: 2 eighths at level 1", x, Checks.behind(6, 6, 0), 185, 192);
     }
 
     /** Promise 4. */
@@ -141,7 +111,7 @@ public final class PromisesTest {
     /** Promise 5. */
     private static void learn() {
         SmoothedGrams x = new SmoothedGrams();
-        say(x, "01");
+        Setup.say(x, "01");
         Checks.due("5: the open one does not count", x.count(3, 6, 6, 0), 0);
         Checks.due("5: learn", x.learn(), 1);
         Checks.due("5: now it counts", x.count(3, 6, 6, 0), 1);
@@ -151,7 +121,7 @@ public final class PromisesTest {
             Checks.due("5: learn nothing", x.learn(), i);
         }
         Checks.due("5: the end at once", x.count(3, 6, 6, 5), 7);
-        say(x, "33");
+        Setup.say(x, "33");
         Checks.due("5: a ninth sentence", x.learn(), NONE);
         Checks.due("5: was not learned", x.count(3, 6, 6, 3), 0);
         Checks.due("5: is open still", x.erase(), 2);
@@ -161,9 +131,9 @@ public final class PromisesTest {
 
     /** Promise 6. */
     private static void erase() {
-        SmoothedGrams x = learned("12");
+        SmoothedGrams x = Setup.learned("12");
         Checks.due("6: an empty one", x.erase(), 0);
-        say(x, "01234012");
+        Setup.say(x, "01234012");
         Checks.due("6: a full one", x.erase(), 8);
         Checks.due("6: is empty", x.erase(), 0);
         Checks.due("6: has room", x.word(4), true);
@@ -174,8 +144,8 @@ public final class PromisesTest {
 
     /** Promise 7. */
     private static void forget() {
-        SmoothedGrams x = learned("0", "1234", "");
-        say(x, "22");
+        SmoothedGrams x = Setup.learned("0", "1234", "");
+        Setup.say(x, "22");
         Checks.due("7: the latest", x.forget(), 0);
         Checks.due("7: in place of the open one", x.erase(), 0);
         Checks.due("7: the one before", x.forget(), 4);
@@ -195,7 +165,7 @@ public final class PromisesTest {
 
     /** Promise 8. */
     private static void count() {
-        SmoothedGrams x = learned("010", "01", "1");
+        SmoothedGrams x = Setup.learned("010", "01", "1");
         Checks.due("8: raw at the order", x.count(3, 6, 0, 1), 2);
         Checks.due("8: the begin twice", x.count(3, 6, 6, 0), 2);
         Checks.due("8: symbols before 0 1", x.count(2, 0, 0, 1), 1);
@@ -228,7 +198,7 @@ public final class PromisesTest {
 
     /** Promises 9 and 10. */
     private static void totalAndKinds() {
-        SmoothedGrams x = learned("0", "0", "1", "", "10");
+        SmoothedGrams x = Setup.learned("0", "0", "1", "", "10");
         Checks.due("9: level 3", x.total(3, 6, 6), 5);
         Checks.due("10: level 3", x.kinds(3, 6, 6), 3);
         // Only the begin stands before 6 0, 6 1 and 6 5.
@@ -260,7 +230,7 @@ public final class PromisesTest {
 
     /** Promise 11. */
     private static void grams() {
-        SmoothedGrams x = learned("010", "01");
+        SmoothedGrams x = Setup.learned("010", "01");
         Checks.due("11: level 3", x.grams(3), 5);
         Checks.due("11: level 2", x.grams(2), 5);
         Checks.due("11: level 1", x.grams(1), 3);
@@ -274,7 +244,7 @@ public final class PromisesTest {
 
     /** Promise 12. */
     private static void gram() {
-        SmoothedGrams x = learned("010", "01");
+        SmoothedGrams x = Setup.learned("010", "01");
         // Level 2: 01 05 10 15 60; level 3: 010 015 105 601 660.
         int[][] rows = {{0, 1, 5}, {1, 5, 7, 12, 42}, {7, 12, 54, 295, 336}};
         for (int k = 1; k <= 3; k++) {
@@ -296,41 +266,41 @@ public final class PromisesTest {
 
     /** Promises 13 and 14. */
     private static void topAndBottom() {
-        SmoothedGrams x = learned("0");
-        dueChance("13: seen", x, behind(6, 6, 0), 37, 64);
-        dueChance("13: unseen", x, behind(6, 6, 1), 9, 128);
-        dueChance("13: the end", x, behind(6, 6, 5), 9, 64);
-        dueChance("13: behind 6 0", x, behind(6, 0, 5), 37, 64);
+        SmoothedGrams x = Setup.learned("0");
+        Checks.dueChance("13: seen", x, Checks.behind(6, 6, 0), 37, 64);
+        Checks.dueChance("13: unseen", x, Checks.behind(6, 6, 1), 9, 128);
+        Checks.dueChance("13: the end", x, Checks.behind(6, 6, 5), 9, 64);
+        Checks.dueChance("13: behind 6 0", x, Checks.behind(6, 0, 5), 37, 64);
         for (int none : new int[] {-1, 7, LEAST, MOST}) {
             for (int n = 3; n >= 1; n--) {
                 x.order(n);
-                dueChance("13: no symbol a", x, behind(none, 6, 0), NONE, NONE);
-                dueChance("13: no symbol b", x, behind(6, none, 0), NONE, NONE);
-                dueChance("13: no word", x, behind(6, 6, none), NONE, NONE);
-                dueChance("13: the begin is no word", x, behind(6, 6, 6), NONE, NONE);
+                Checks.dueChance("13: no symbol a", x, Checks.behind(none, 6, 0), NONE, NONE);
+                Checks.dueChance("13: no symbol b", x, Checks.behind(6, none, 0), NONE, NONE);
+                Checks.dueChance("13: no word", x, Checks.behind(6, 6, none), NONE, NONE);
+                Checks.dueChance("13: the begin is no word", x, Checks.behind(6, 6, 6), NONE, NONE);
             }
         }
         // Before they are reduced: 12 / 24, 4 / 24 and 2 / 24.
-        SmoothedGrams y = learned("00");
+        SmoothedGrams y = Setup.learned("00");
         y.order(1);
-        dueChance("13: lowest terms", y, behind(1, 4, 0), 1, 2);
-        dueChance("13: lowest terms of the end", y, behind(4, 1, 5), 1, 6);
-        dueChance("13: lowest terms of the unseen", y, behind(6, 6, 4), 1, 12);
+        Checks.dueChance("13: lowest terms", y, Checks.behind(1, 4, 0), 1, 2);
+        Checks.dueChance("13: lowest terms of the end", y, Checks.behind(4, 1, 5), 1, 6);
+        Checks.dueChance("13: lowest terms of the unseen", y, Checks.behind(6, 6, 4), 1, 12);
     }
 
     /** A total of 0 leaves the chance of the level below as it is. */
     private static void totalsOfZero() {
-        SmoothedGrams x = learned("0");
-        dueChance("13: level 3 unseen", x, behind(0, 6, 0), 7, 16);
-        dueChance("13: level 3 unseen behind 0", x, behind(0, 0, 5), 7, 16);
-        dueChance("13: levels 3 and 2 unseen", x, behind(1, 1, 5), 1, 4);
-        dueChance("13: and an unseen word", x, behind(0, 1, 4), 1, 8);
+        SmoothedGrams x = Setup.learned("0");
+        Checks.dueChance("13: level 3 unseen", x, Checks.behind(0, 6, 0), 7, 16);
+        Checks.dueChance("13: level 3 unseen behind 0", x, Checks.behind(0, 0, 5), 7, 16);
+        Checks.dueChance("13: levels 3 and 2 unseen", x, Checks.behind(1, 1, 5), 1, 4);
+        Checks.dueChance("13: and an unseen word", x, Checks.behind(0, 1, 4), 1, 8);
         x.forget();
-        dueChance("13: all unseen", x, behind(0, 0, 5), 1, 6);
+        Checks.dueChance("13: all unseen", x, Checks.behind(0, 0, 5), 1, 6);
     }
 
     private static void chancesSumToOne() {
-        SmoothedGrams x = learned("0120", "1102", "3", "", "0", "44444444");
+        SmoothedGrams x = Setup.learned("0120", "1102", "3", "", "0", "44444444");
         x.discount(2, 3);
         x.discount(3, 8);
         for (int a = 0; a <= 6; a++) {
@@ -352,7 +322,7 @@ public final class PromisesTest {
     /** Promise 15. */
     private static void likeliest() {
         Checks.due("15: all the same", new SmoothedGrams().likeliest(3, 6), 0);
-        SmoothedGrams x = learned("4", "2", "21", "41");
+        SmoothedGrams x = Setup.learned("4", "2", "21", "41");
         Checks.due("15: the least of two", x.likeliest(6, 6), 2);
         Checks.due("15: the least with the end", x.likeliest(6, 2), 5);
         Checks.due("15: the end", x.likeliest(2, 1), 5);
@@ -371,13 +341,13 @@ public final class PromisesTest {
 
     /** Promise 16. */
     private static void score() {
-        SmoothedGrams x = learned("0");
-        dueScore("16: of the end alone", x, 9, 64);
+        SmoothedGrams x = Setup.learned("0");
+        Checks.dueScore("16: of the end alone", x, 9, 64);
         x.word(0);
-        dueScore("16: of 0", x, 37 * 37, 64 * 64);
+        Checks.dueScore("16: of 0", x, 37 * 37, 64 * 64);
         x.erase();
         x.word(1);
-        dueScore("16: of 1", x, 9, 128 * 4);
+        Checks.dueScore("16: of 1", x, 9, 128 * 4);
         for (int part : new int[] {1, 2, -1, LEAST, MOST}) {
             Checks.due("16: any other part", x.score(part, 0), 512);
         }
@@ -387,14 +357,14 @@ public final class PromisesTest {
         for (int i : new int[] {1, 8, 9, 10, 31, 32, 1 << 27, MOST}) {
             Checks.due("16: no bits there", x.score(0, i) | x.score(1, i), 0);
         }
-        SmoothedGrams y = learned("", "", "", "", "");
+        SmoothedGrams y = Setup.learned("", "", "", "", "");
         y.order(1);
         y.discount(1, 8);
         y.word(0);
         // 1 / 30 times 5 / 6.
-        dueScore("16: not in lowest terms", y, 5, 180);
+        Checks.dueScore("16: not in lowest terms", y, 5, 180);
         // 5 / (6 * 30^8), the bottom of which needs more than 32 bits.
-        say(y, "1234012");
+        Setup.say(y, "1234012");
         long bottom = 6 * 656100000000L;
         Checks.due("16: low part", y.score(1, 0), (int) bottom);
         Checks.due("16: high part", y.score(1, 1), (int) (bottom >>> 32));
@@ -403,7 +373,7 @@ public final class PromisesTest {
 
     /** Promises 17 and 18. */
     private static void keepAndAgainst() {
-        SmoothedGrams x = learned("0");
+        SmoothedGrams x = Setup.learned("0");
         Checks.due("18: against 1 over 1", x.against(), -1);
         x.keep();
         Checks.due("18: against itself", x.against(), 0);
@@ -415,10 +385,10 @@ public final class PromisesTest {
         x.keep();
         x.erase();
         Checks.due("17: kept anew", x.against(), 1);
-        SmoothedGrams y = learned("", "", "", "", "");
+        SmoothedGrams y = Setup.learned("", "", "", "", "");
         y.order(1);
         y.discount(1, 8);
-        say(y, "0");
+        Setup.say(y, "0");
         // 5 / 180 is kept, and stays what it was, whatever becomes of its sentence and of the counts.
         y.keep();
         for (int i = 0; i < 5; i++) {
@@ -428,7 +398,7 @@ public final class PromisesTest {
         Checks.due("17: 1 / 36 by other counts is as much", y.against(), 0);
         y.erase();
         Checks.due("17: 1 / 6", y.against(), 1);
-        say(y, "01");
+        Setup.say(y, "01");
         Checks.due("17: 1 / 216", y.against(), -1);
         long first = state(y);
         y.against();
@@ -452,8 +422,8 @@ public final class PromisesTest {
     }
 
     private static void refusedCallsChangeNothing() {
-        SmoothedGrams x = learned("0", "1", "2", "3", "4", "", "00", "0123");
-        say(x, "01234012");
+        SmoothedGrams x = Setup.learned("0", "1", "2", "3", "4", "", "00", "0123");
+        Setup.say(x, "01234012");
         x.keep();
         x.discount(3, 5);
         long before = state(x);
@@ -469,7 +439,7 @@ public final class PromisesTest {
         x.learn();
         Checks.due("a refused call changes nothing", state(x), before);
         SmoothedGrams y = new SmoothedGrams();
-        say(y, "0123");
+        Setup.say(y, "0123");
         before = state(y);
         y.forget();
         Checks.due("a refused forget changes nothing", state(y), before);
