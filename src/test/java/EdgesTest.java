@@ -10,6 +10,9 @@ public final class EdgesTest {
     private static final int MOST = Setup.MOST;
     private static final String[] EIGHT = {"01234012", "43210432", "00000000", "11111111", "22222222", "33333333",
         "44444444", "01010101"};
+    /** They were searched for, as scores beside them have up to 169 bits. */
+    private static final String[] WIDE = {"21212442", "00103312", "22041232", "20222222", "12222113", "32222240",
+        "43234222", "22222222"};
 
     private EdgesTest() {
     }
@@ -651,18 +654,23 @@ public final class EdgesTest {
 
     /** Promise 18: "is less than the kept one, the same, or more", also where both have many bits. */
     private static void againstOfLongScores() {
-        int[][] discounts = {{1, 1, 3}, {1, 1, 4}, {1, 2, 3}, {2, 1, 3}, {7, 5, 3}, {7, 5, 2}};
+        int[][] eighths = {{1, 1, 3}, {1, 1, 4}, {1, 2, 3}, {2, 1, 3}, {7, 5, 3}, {7, 5, 2}};
         String[] open = {"22222222", "01234321", "", "4", "43210432"};
-        for (int i = 0; i < discounts.length * open.length; i++) {
-            for (int j = 0; j < discounts.length * open.length; j++) {
-                SmoothedGrams x = Setup.learned(EIGHT);
-                BigInteger[] one = brought(x, discounts[i / open.length], open[i % open.length]);
-                x.keep();
-                BigInteger[] two = brought(x, discounts[j / open.length], open[j % open.length]);
-                int due = two[0].multiply(one[1]).compareTo(one[0].multiply(two[1]));
-                Checks.due("18: score " + j + " against score " + i, x.against(), due);
-            }
+        int scores = eighths.length * open.length;
+        int longest = 0;
+        for (int ij = 0; ij < scores * scores; ij++) {
+            int i = ij / scores;
+            int j = ij % scores;
+            SmoothedGrams x = Setup.learned(i % 2 == 0 ? WIDE : EIGHT);
+            BigInteger[] one = brought(x, eighths[i / open.length], open[i % open.length]);
+            x.keep();
+            BigInteger[] two = brought(x, eighths[j / open.length], open[j % open.length]);
+            BigInteger left = two[0].multiply(one[1]);
+            BigInteger right = one[0].multiply(two[1]);
+            longest = Math.max(longest, right.bitLength());
+            Checks.due("18: score " + j + " against score " + i, x.against(), left.compareTo(right));
         }
+        Checks.due("18: some were long", longest > 320, true);
     }
 
     private static BigInteger[] brought(SmoothedGrams x, int[] eighths, String open) {
